@@ -138,6 +138,8 @@ final class CardTests {
         Check.same("price(1) with two wins", house.price(1), 100);
         Check.same("price(3) without a win", house.price(3), 50);
         Check.same("price(0) of none", house.price(0), 0);
+        house.print(0, 4);
+        Check.same("price(0) of one card", house.price(0), 100);
         Check.fails("price(-1)", Check.INDEX, () -> house.price(-1));
         Check.fails("price(16)", Check.INDEX, () -> house.price(16));
     }

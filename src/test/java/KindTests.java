@@ -9,6 +9,7 @@ final class KindTests {
         setFormat();
         ban();
         isAllowed();
+        allDecks();
     }
 
     private static void newObject() {
@@ -173,5 +174,16 @@ final class KindTests {
         Check.same("setFormat(10, 4) and a deck with four", house.setFormat(10, 4), 1);
         house.ban(2, true);
         Check.same("isAllowed with the last one banned", house.isAllowed(0), false);
+    }
+
+    private static void allDecks() {
+        Check.part("promises 3 and 4");
+        Cardhouse house = new Cardhouse();
+        for (int deck = 0; deck < 12; deck++) {
+            Builder.deckOf(house, deck % 6, 0, 1, 2, deck == 11 ? 4 : 3);
+        }
+        Check.same("setFormat(4, 1) with 12 decks", house.setFormat(4, 1), 12);
+        Check.same("ban(3, true) with 12 decks", house.ban(3, true), 1);
+        Check.same("ban(4, true) with 12 decks", house.ban(4, true), 0);
     }
 }

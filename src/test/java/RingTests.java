@@ -12,6 +12,7 @@ final class RingTests {
         fewestFirst();
         lowerNumbersFirst();
         differentCollectors();
+        fortyOffers();
         wrongInputs();
     }
 
@@ -142,6 +143,20 @@ final class RingTests {
         isRing(house);
         Builder.offerOf(house, 3, 1, 6);
         isRing(house, 0, 2, 5, 6);
+    }
+
+    private static void fortyOffers() {
+        Cardhouse house = new Cardhouse();
+        for (int offer = 0; offer < 39; offer++) {
+            Builder.offerOf(house, offer % 5, offer % 13, offer % 13 + 1);
+        }
+        isRing(house);
+        Check.same("trade() of 39 offers", house.trade(), 0);
+        Builder.offerOf(house, 5, 3, 0);
+        // A card goes to one who has the kind below it; the last offer has the kind 3, and wants the kind 0.
+        isRing(house, 0, 39, 2, 1);
+        house.takeBack(39);
+        isRing(house);
     }
 
     private static void wrongInputs() {

@@ -5,15 +5,21 @@ public final class AllTests {
 
     public static void main(String[] args) {
         FaceTests.run();
+        NewObjectTests.run();
         KindTests.run();
+        FormatTests.run();
         CardTests.run();
+        PriceTests.run();
         DeckTests.run();
         ShuffleTests.run();
-        GameTests.run();
         OrderTests.run();
+        GameTests.run();
+        PlayTests.run();
         OfferTests.run();
         RingTests.run();
+        AskedTests.run();
         ModelTests.run();
+        System.out.println(Check.sentences() + " sentences tested");
         System.out.println(Check.passed() + " passed, " + Check.failed() + " failed");
         if (Check.failed() > 0 || Check.passed() == 0) {
             System.exit(1);

@@ -1,10 +1,12 @@
 import java.util.List;
 import java.util.function.IntSupplier;
 
-/** Runs of 512 told draws of calls, each answer held against the model's, and so is all that can be asked. */
+/** Runs of up to 512 calls by told draws, each answer held against the model's, and at last what can be asked. */
 final class ModelTests {
-    private static final int RUNS = 400;
+    private static final int RUNS = 2000;
     private static final int CALLS = 512;
+    /** A step takes up to 22 calls, and the last questions up to 200. */
+    private static final int LAST_STEP = CALLS - 22 - 200;
     private static final int[] ODD_NUMBERS = {-1, Integer.MIN_VALUE, Integer.MAX_VALUE, 4, 6, 10, 11, 12, 16, 40, 80};
 
     private final Cardhouse house = new Cardhouse();
@@ -34,21 +36,25 @@ final class ModelTests {
                 rings[length] += one.rings[length];
             }
         }
-        Check.isTrue("the runs play games: " + games, games > 10 * RUNS);
+        Check.isTrue("the runs play games: " + games, games > 5 * RUNS);
         for (int length = 2; length < rings.length; length++) {
-            Check.isTrue("the runs trade rings of " + length + ": " + rings[length], rings[length] > RUNS / 20);
+            Check.isTrue("the runs trade rings of " + length + ": " + rings[length], rings[length] > RUNS / 100);
         }
     }
 
     private void go(int run) {
-        while (calls < CALLS && isSame) {
+        int lastStep = run % 4 == 0 ? 40 + run % (LAST_STEP - 40) : LAST_STEP;
+        while (calls < lastStep && isSame) {
             step();
-            if (calls % 32 == 0) {
-                askAll();
-            }
         }
-        askAll();
+        askCards();
+        switch (run % 3) {
+            case 0 -> askPrints();
+            case 1 -> askKinds();
+            default -> askDecks();
+        }
         Check.isTrue("run " + run + " differs", isSame);
+        Check.isTrue("run " + run + " has " + calls + " calls", calls <= CALLS);
     }
 
     private int draw(int bound) {
@@ -73,11 +79,11 @@ final class ModelTests {
     }
 
     private void step() {
-        calls++;
         int deck = below(calls < 100 ? 4 : 12);
         int other = below(calls < 100 ? 4 : 12);
         int card = below(model.cards() + (draw(20) == 0 ? 1 : 0));
-        switch (draw(20)) {
+        // At first cards and decks alone, so that games and trades come soon.
+        switch (calls < 60 ? 3 + draw(8) : draw(20)) {
             case 0, 1 -> setKindOrFormat();
             case 2 -> ban();
             case 3, 4, 5 -> print();
@@ -179,35 +185,52 @@ final class ModelTests {
         same("shuffled", () -> house.shuffled(deck, seed, place), () -> model.shuffled(deck, seed, place));
     }
 
-    private void askAll() {
+    private void askCards() {
         same("cards", house::cards, model::cards);
-        for (int i = -1; i <= 80; i++) {
-            int number = i;
-            same("printOf", () -> house.printOf(number), () -> model.printOf(number));
-            same("collectorOf", () -> house.collectorOf(number), () -> model.collectorOf(number));
-            same("isOpen", () -> house.isOpen(number) ? 1 : 0, () -> model.isOpen(number) ? 1 : 0);
-        }
-        for (int i = -1; i <= 16; i++) {
-            int number = i;
-            same("wins", () -> house.wins(number), () -> model.wins(number));
-            same("price", () -> house.price(number), () -> model.price(number));
-            same("isAllowed", () -> house.isAllowed(number) ? 1 : 0, () -> model.isAllowed(number) ? 1 : 0);
-            same("has", () -> house.has(calls % 6, number), () -> model.has(calls % 6, number));
-        }
         for (int i = -1; i <= 4; i++) {
             int place = i;
             same("ring", () -> house.ring(place), () -> model.ring(place));
         }
+        for (int i = -1; i <= 12; i++) {
+            int deck = i;
+            same("isAllowed", () -> house.isAllowed(deck) ? 1 : 0, () -> model.isAllowed(deck) ? 1 : 0);
+        }
+    }
+
+    private void askPrints() {
+        for (int i = 0; i <= 80; i++) {
+            int card = i;
+            same("printOf", () -> house.printOf(card), () -> model.printOf(card));
+            same("collectorOf", () -> house.collectorOf(card), () -> model.collectorOf(card));
+        }
+    }
+
+    private void askKinds() {
+        for (int i = -1; i <= 40; i++) {
+            int number = i;
+            same("wins", () -> house.wins(number), () -> model.wins(number));
+            same("price", () -> house.price(number), () -> model.price(number));
+            same("isOpen", () -> house.isOpen(number) ? 1 : 0, () -> model.isOpen(number) ? 1 : 0);
+            same("has", () -> house.has(1, number), () -> model.has(1, number));
+        }
+    }
+
+    private void askDecks() {
+        int seed = seed();
         for (int i = 0; i < 12; i++) {
             for (int j = 0; j < 10; j++) {
                 int deck = i;
                 int place = j;
-                same("shuffled", () -> house.shuffled(deck, calls, place), () -> model.shuffled(deck, calls, place));
+                same("shuffled", () -> house.shuffled(deck, seed, place), () -> model.shuffled(deck, seed, place));
             }
+            int deck = i;
+            same("orders", () -> house.orders(deck, deck, 3), () -> model.orders(deck, deck, 3));
+            same("ordersByAll", () -> house.ordersByAll(deck, 0, 2), () -> model.ordersByAll(deck, 0, 2));
         }
     }
 
     private int same(String name, IntSupplier one, IntSupplier other) {
+        calls++;
         int got = answer(one);
         int due = answer(other);
         if (got != due && isSame) {

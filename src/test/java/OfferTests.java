@@ -93,7 +93,7 @@ final class OfferTests {
     private static void noSuchCard() {
         Refused.noSuchCard("offer(.., 0)", (house, card) -> house.offer(card, 0));
         Refused all = new Refused(Houses::allCards);
-        all.indexOutside(0, 79, "offer(.., 0), none made,", (house, card) -> house.offer(card, 0));
+        all.indexOutside(0, 79, "offer(.., 0), none made", (house, card) -> house.offer(card, 0));
     }
 
 

@@ -193,18 +193,18 @@ final class OrderTests {
     }
 
     private static void noSuchDeck(Count count) {
-        Refused.noSuchDeck("the deck", (house, deck) -> count.of(house, deck, 0, 1));
+        Refused.noSuchDeck("the deck ..", (house, deck) -> count.of(house, deck, 0, 1));
     }
 
     private static void noSuchKind(Count count) {
-        Refused.noSuchKind("the kind", (house, kind) -> count.of(house, 0, kind, 1));
-        Refused.noSuchKind("in a deck without cards, the kind", (house, kind) -> count.of(house, 6, kind, 10));
+        Refused.noSuchKind("the kind ..", (house, kind) -> count.of(house, 0, kind, 1));
+        Refused.noSuchKind("without cards, the kind ..", (house, kind) -> count.of(house, 6, kind, 10));
     }
 
     private static void firstOutOfRange(Count count, int mostCards) {
         Refused refused = new Refused(Houses::busy);
-        refused.argumentOutside(1, 10, "first", (house, first) -> count.of(house, 0, 0, first));
-        refused.argumentOutside(1, 10, "without cards, first", (house, first) -> count.of(house, 6, 0, first));
+        refused.argumentOutside(1, 10, "first ..", (house, first) -> count.of(house, 0, 0, first));
+        refused.argumentOutside(1, 10, "without cards, first ..", (house, first) -> count.of(house, 6, 0, first));
         Cardhouse house = new Cardhouse();
         Houses.deckOfSize(house, 0, mostCards);
         Check.isTrue("first 1 is allowed", count.of(house, 0, 0, 1) > 0);

@@ -40,13 +40,13 @@ final class Refused {
     /** The first numbers on both sides that are not from the least to the most, and the last ones that there are. */
     void indexOutside(int least, int most, String what, ObjIntConsumer<Cardhouse> call) {
         for (int number : Check.outside(least, most)) {
-            index(what + " of " + number, house -> call.accept(house, number));
+            index(what + ", .. being " + number, house -> call.accept(house, number));
         }
     }
 
     void argumentOutside(int least, int most, String what, ObjIntConsumer<Cardhouse> call) {
         for (int number : Check.outside(least, most)) {
-            argument(what + " of " + number, house -> call.accept(house, number));
+            argument(what + ", .. being " + number, house -> call.accept(house, number));
         }
     }
 

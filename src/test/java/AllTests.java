@@ -4,6 +4,7 @@ public final class AllTests {
     }
 
     public static void main(String[] args) {
+        ReadmeTests.run();
         FaceTests.run();
         NewObjectTests.run();
         KindTests.run();
